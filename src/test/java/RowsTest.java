@@ -109,6 +109,9 @@ public final class RowsTest {
         x.put(0, 1, 0);
         due.fraction("one value for two kinds", x, x.sum(0), 1, 2);
         due.same("the other row has none", x.sum(1), -1);
+        x.put(1, 0, 0);
+        due.fraction("the row behind is not added", x, x.sum(0), 1, 2);
+        due.fraction("the row before is not added", x, x.sum(1), 1, 2);
         due.same("sum(-1)", x.sum(-1), -1);
         due.same("sum(2)", x.sum(2), -1);
         due.same("sum(MAX)", x.sum(Integer.MAX_VALUE), -1);
@@ -117,7 +120,7 @@ public final class RowsTest {
             x.put(0, kind, -1);
         }
         due.same("sum of none again", x.sum(0), -1);
-        due.same("no refused sum kept a value", x.value(1, 1), 7);
+        due.same("no refused sum kept a value", x.value(1, 1), 9);
         sumOfSixteen();
     }
 

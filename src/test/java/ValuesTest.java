@@ -109,6 +109,8 @@ public final class ValuesTest {
         // Two neighbours of Fibonacci's row ask for the most steps of a divisor's search.
         due.same("F91/F92", x.value(4660046610375530309L, 7540113804746346429L), -1);
         due.fraction("F43/F44", x, x.value(433494437L, 701408733L), 433494437L, 701408733L);
+        long times = 10000000000L;
+        due.fraction("F43/F44 times 10^10", x, x.value(433494437L * times, 701408733L * -times), -433494437L, 701408733L);
     }
 
     private static void threeHundredValues() {
