@@ -4,6 +4,12 @@ import java.util.function.LongSupplier;
 final class Due {
     private int asked = 0;
     private int wrong = 0;
+    private String sentence = "";
+
+    /** The document's sentence that the answers asked for from here on belong to. */
+    void sentence(String text) {
+        sentence = "\"" + text + "\": ";
+    }
 
     void same(String call, long got, long want) {
         asked++;
@@ -18,6 +24,14 @@ final class Due {
 
     void no(String call, boolean got) {
         same(call, got ? 1 : 0, 0);
+    }
+
+    void none(String call, long got) {
+        same(call, got, KilogramRows.NONE);
+    }
+
+    void noNumber(String call, long got) {
+        same(call, got, Long.MIN_VALUE);
     }
 
     void fraction(String call, KilogramRows x, int number, long upper, long lower) {
@@ -54,7 +68,7 @@ final class Due {
     private void tell(String text) {
         wrong++;
         if (wrong <= 50) {
-            System.out.println(text);
+            System.out.println(sentence + text);
         }
     }
 
