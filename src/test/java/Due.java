@@ -18,6 +18,13 @@ final class Due {
         }
     }
 
+    void text(String call, String got, String want) {
+        asked++;
+        if (!got.equals(want)) {
+            tell(call + " answered " + got + ", due is " + want);
+        }
+    }
+
     void yes(String call, boolean got) {
         same(call, got ? 1 : 0, 1);
     }

@@ -28,7 +28,7 @@ public final class RefusedEdgesTest {
         return new KilogramRows(3);
     }
 
-    /** Values 1/2, 0, 10^9, 1/10^9, -7/3, -10^9; two rows; a solved system and other entries since; weights 3, 0, 4. */
+    /** Values 1/2, 0, 10^9, 1/10^9, -7/3, -10^9; three rows; a solved system and other entries since; weights 3, 0, 4. */
     private static KilogramRows partlyFilled() {
         KilogramRows x = new KilogramRows(3);
         x.value(1, 2);
